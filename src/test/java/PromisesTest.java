@@ -75,6 +75,7 @@ public final class PromisesTest {
     focus();
     carry();
     window();
+    windowFull();
     shareAt();
   }
 
@@ -1181,6 +1182,31 @@ public final class PromisesTest {
     x.giveBack(5);
     due("36: returned", x.origin(1, 7), 100);
     due("36: returned", x.window(), 1);
+  }
+
+  /** All that may be granted is granted: what comes back, from whatever period, is granted again. */
+  private static void windowFull() {
+    QuotaLicences x = Check.of("scheme 0 99999 90 0 0 1;origin 100;importer;importer;importer");
+    x.apply(0, 0, 40);
+    x.use(0, 10);
+    x.giveBack(0);
+    x.apply(1, 0, 90);
+    due("36: all, one given back", x.window(), 1);
+    x.undo();
+    pass(x, 90);
+    x.apply(1, 0, 190);
+    due("36: quota and carried", x.licence(1, 2), 190);
+    due("36: quota and carried", x.window(), 1);
+    pass(x, 89);
+    x.giveBack(1);
+    x.apply(2, 0, 190);
+    due("36: granted again", x.licence(2, 2), 190);
+    pass(x, 1);
+    x.apply(0, 0, 100);
+    x.giveBack(2);
+    x.apply(1, 0, 190);
+    due("36: quota and returned", x.licence(4, 2), 190);
+    due("36: quota and returned", x.window(), 1);
   }
 
   private static void shareAt() {
