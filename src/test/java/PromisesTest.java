@@ -208,6 +208,10 @@ public final class PromisesTest {
     fault(B + ";orig", 20, 1);
     fault(B + ";7", 20, 1);
     fault(B + ";origin 1;importer 3", 38, 1);
+    fault(B + ";origin 1 importer", 29, 1);
+    fault(B + " origin 1", 20, 1);
+    fault(B + ";xrigin 1", 20, 1);
+    fault(B + ";origin 1;mporter", 29, 1);
     fault(B + ";origin 100000", 27, 2);
     fault(B + ";origin 12345678901234567890x", 27, 2);
     fault(B + ";origin 4294967297", 27, 2);
@@ -364,9 +368,12 @@ public final class PromisesTest {
     due("50: rush() of 60", x.rush(0, 0, 1), 0);
     x.undo();
     due("50: rush() of 59", x.rush(0, 0, 1), 1);
+    due("50: rush() of 59, where the first one has none", x.rush(1, 1, 1), 0);
     due("50: rush() of 59, the second", x.rush(1, 0, 1), 0);
     due("50: rush() of 59, a newcomer", x.rush(2, 0, 1), 0);
-    due("50: rush() of 59, where the first one has none", x.rush(1, 1, 1), 0);
+    x.undo();
+    due("50: rush() of 58, the second", x.rush(1, 0, 1), 1);
+    due("50: rush() of 58, a newcomer", x.rush(2, 0, 1), 0);
   }
 
   private static void use() {
@@ -546,6 +553,11 @@ public final class PromisesTest {
     due("12: -1", x.days(-1), -1);
     due("12: 91", x.days(91), -1);
     due("12: none without a scheme", new QuotaLicences().days(1), -1);
+    QuotaLicences z = Check.of(S);
+    z.apply(0, 0, 7);
+    z.set(2, 10);
+    z.apply(0, 0, 5);
+    due("12: two lapse on two days", z.days(40), 12);
     x.apply(0, 0, 100);
     x.apply(2, 0, 60);
     x.use(1, 25);
@@ -566,7 +578,11 @@ public final class PromisesTest {
     due("12: granted anew", x.origin(0, 4), 0);
     due("12: lapses in the next period", x.days(30), 90);
     due("12: returned", x.origin(0, 7), 90);
-    due("12: pool", x.origin(0, 3), 400 + 885 + 90);
+    x.set(2, 3);
+    x.apply(1, 0, 8);
+    due("12: of this period", x.days(3), 8);
+    due("12: returned stays", x.origin(0, 7), 90);
+    due("12: pool", x.origin(0, 3), 400 + 885 + 90 + 8);
     QuotaLicences y = Check.of(S);
     pass(y, 3600 - 45);
     due("12: above 3600", y.days(46), -2);
@@ -710,6 +726,20 @@ public final class PromisesTest {
     due("15: undo()", x.undo(), 1);
     due("15: undo()", x.undo(), 0);
     due("15: of apply()", x.share(0, 0, 1), 450);
+    x.apply(0, 0, 20);
+    pass(x, 2);
+    x.use(0, 20);
+    x.undo();
+    x.undo();
+    x.undo();
+    x.apply(0, 0, 30);
+    due("15: a new licence in its place", x.licence(0, 4), 0);
+    due("15: a new licence in its place", x.licence(0, 5), 0);
+    due("15: a new licence in its place", x.licence(0, 7), 30);
+    x.use(0, 1);
+    due("15: a new licence in its place", x.speed(0), 0);
+    x.undo();
+    due("15: peak", x.peak(0, 1, 1), 0);
   }
 
   private static void keep() {
@@ -767,6 +797,53 @@ public final class PromisesTest {
     due("17: another scheme", Check.tell(x, B + ";origin 3"), 1);
     due("17: back(1)", x.back(1), 2);
     due("17: importers", x.count(1), 4);
+    backWhole();
+  }
+
+  /** Each part of what is kept is changed before it is brought back. */
+  private static void backWhole() {
+    QuotaLicences x = Check.of(S);
+    x.apply(2, 1, 50);
+    pass(x, 3);
+    x.apply(1, 0, 60);
+    x.use(1, 20);
+    x.hand(1, 3, 15);
+    pass(x, 2);
+    x.use(2, 5);
+    x.giveBack(0);
+    x.keep(0);
+    Check.tell(x, "scheme 10 99999 90 0 0 3;origin 9000;origin 8000;origin 7000;importer;importer;importer;importer");
+    for (int i = 0; i < 3; i++) {
+      x.apply(0, i, 1);
+      x.use(i, 1);
+    }
+    x.apply(2, 0, 9);
+    pass(x, 100);
+    due("17: back(0)", x.back(0), 2);
+    int[][] want = {{2, 1, 50, 0, 0, 2, 29, 0}, {1, 0, 45, 3, 20, 0, 32, 25}, {3, 0, 15, 3, 5, 0, 32, 10}};
+    for (int i = 0; i < 3; i++) {
+      for (int what = 0; what < 8; what++) {
+        due("17: licence(" + i + ", " + what + ")", x.licence(i, what), want[i][what]);
+      }
+    }
+    due("17: no more licences", x.count(2), 3);
+    due("17: root", x.root(2, 0), 1);
+    Check.dueDouble("17: speed", x.speed(2), 2.0);
+    due("17: idle", x.idle(2, 1), 1);
+    due("17: sort", x.sort(0, 0), 1);
+    due("17: sort", x.sort(2, 0), 0);
+    due("17: share", x.share(0, 0, 0), 450);
+    due("17: left", x.share(1, 0, 1), 90);
+    due("17: granted", x.would(2, 1, 1), -4);
+    due("17: not granted", x.would(0, 1, 1), 1);
+    due("17: not granted", x.would(2, 0, 1), 1);
+    due("17: peak", x.peak(0, 1, 1), 25);
+    due("17: month", x.month(1, 0), 20);
+    due("17: no log", x.log(0, 0, 0), -1);
+    due("17: stood", x.stood(1, 4), 50);
+    x.undo();
+    pass(x, 1);
+    due("17: ended on day 5", x.stood(1, 5), 0);
   }
 
   // ---- 18 to 28 ----
@@ -837,6 +914,11 @@ public final class PromisesTest {
     String one = S.replace("200 2;", "200 1;");
     due("21: need 1, one year", Check.of(one).sort(2, 0), 1);
     due("21: need 1, no year", Check.of(one).sort(3, 0), 0);
+    String little = "scheme 60 100 30 50 200 2;origin 9;importer;importer;importer"
+        + ";past 0 0 1 1 0;past 1 0 0 1 1;past 2 0 1 0 1";
+    for (int i = 0; i < 3; i++) {
+      due("21: one a year", Check.of(little).sort(i, 0), 1);
+    }
   }
 
   private static void mean() {
@@ -944,6 +1026,14 @@ public final class PromisesTest {
     due("26: of 0 together", x.rate(3), MINUS_ONE);
     x.giveBack(5);
     due("26: nothing used", x.rate(2), 0);
+    QuotaLicences y = Check.of(S);
+    y.apply(2, 0, 1);
+    y.use(0, 1);
+    Check.dueDouble("26: one of 1", y.rate(2), 1.0);
+    y.apply(0, 0, 300);
+    y.use(1, 1);
+    y.giveBack(1);
+    Check.dueDouble("26: a small one", y.rate(0), 1.0 / 300.0);
   }
 
   private static void idle() {
@@ -976,6 +1066,11 @@ public final class PromisesTest {
     x.apply(0, 0, 10);
     x.hand(4, 1, 10);
     due("27: of 0", x.idle(0, 0), 0);
+    x.set(3, 50);
+    x.apply(1, 1, 300);
+    x.use(x.count(2) - 1, 149);
+    x.giveBack(x.count(2) - 1);
+    due("27: one too few of 300", x.idle(1, 1), 1);
     idleByDays();
   }
 
@@ -1090,6 +1185,7 @@ public final class PromisesTest {
     due("32: how much", x.best(1, 200, 1), 200);
     due("32: above lot", x.best(2, 101, 0), -2);
     due("32: above lot", x.best(2, 101, 1), -2);
+    due("32: one", x.best(2, 1, 1), 1);
     due("32: n 0", x.best(2, 0, 0), -1);
     due("32: n 100000", x.best(2, 100000, 0), -1);
     due("32: no such", x.best(2, 1, 2), -1);
@@ -1123,6 +1219,9 @@ public final class PromisesTest {
     due("34: nothing", x.focus(0), 0);
     due("34: no origin", x.focus(2), -1);
     due("34: no origin", x.focus(-1), -1);
+    x.apply(0, 0, 1);
+    Check.dueDouble("34: one", x.focus(0), 1.0);
+    x.undo();
     x.apply(0, 0, 10);
     Check.dueDouble("34: one", x.focus(0), 1.0);
     x.apply(1, 0, 20);
@@ -1235,7 +1334,9 @@ public final class PromisesTest {
     due("38: nothing", x.speed(0), MINUS_ONE);
     due("38: no licence", x.speed(1), -1);
     due("38: no licence", x.speed(-1), -1);
-    x.use(0, 10);
+    x.use(0, 1);
+    due("38: one at once", x.speed(0), 0);
+    x.use(0, 9);
     due("38: at once", x.speed(0), 0);
     pass(x, 3);
     x.use(0, 20);
@@ -1276,6 +1377,21 @@ public final class PromisesTest {
     x.apply(3, 0, 5);
     x.use(5, 5);
     due("39: all licences together", x.fastest(0), 3);
+    fastestMerged();
+  }
+
+  private static void fastestMerged() {
+    QuotaLicences x = Check.of(S);
+    x.apply(0, 0, 50);
+    x.apply(0, 0, 50);
+    x.apply(1, 0, 50);
+    pass(x, 3);
+    x.use(1, 10);
+    x.use(2, 1);
+    pass(x, 1);
+    x.use(2, 1);
+    x.merge(0, 1);
+    due("39: what was used is told once", x.fastest(0), 0);
   }
 
   private static void log() {
@@ -1408,6 +1524,15 @@ public final class PromisesTest {
     x.use(5, 50);
     due("44: the last month", x.peak(0, 1, 0), 11);
     due("44: the last two", x.peak(0, 2, 0), 10);
+    x.set(2, 30);
+    x.use(4, 1);
+    pass(x, 1);
+    due("44: a new year", x.peak(0, 12, 1), 0);
+    x.apply(0, 0, 50);
+    x.use(6, 3);
+    x.use(6, 4);
+    due("44: twice in a month", x.peak(0, 1, 1), 7);
+    due("20: twice in a year", x.past(0, 0, 3), 7);
   }
 
   private static void even() {
@@ -1435,6 +1560,8 @@ public final class PromisesTest {
     y.apply(4, 0, 20);
     due("45: granted ones, too", y.even(4, 0), 5);
     due("45: the second of 22", y.even(2, 0), 6);
+    QuotaLicences z = Check.of("scheme 60 20 30 50 200 1;origin 7;importer");
+    due("45: one alone", z.even(0, 0), 7);
   }
 
   private static void future() {
@@ -1459,6 +1586,20 @@ public final class PromisesTest {
     x.set(5, 2);
     pass(x, 360);
     due("46: so it is", x.share(2, 0, 0), 62);
+    String little = "scheme 100 1 1 0 0 2;origin 12;importer;importer;importer;importer"
+        + ";past 0 0 0 1 1;past 1 0 0 0 1;past 2 0 0 1 0;past 3 0 9 9 0";
+    QuotaLicences y = Check.of(little);
+    for (int i = 1; i < 4; i++) {
+      y.excess(i, 0, 1, 1);
+    }
+    due("46: 12 by 2 of 16", y.future(0, 0), 1);
+    due("46: 12 by 2 of 16", y.future(1, 0), 1);
+    due("46: 12 by 2 of 16", y.future(2, 0), 1);
+    due("46: 12 by 10 of 16", y.future(3, 0), 7);
+    QuotaLicences z = Check.of(little);
+    z.excess(2, 0, 1, 1);
+    due("46: only the oldest year counts of one", z.future(3, 0), 0);
+    due("46: 12 by 2 of 4", z.future(2, 0), 6);
   }
 
   private static void likely() {
@@ -1480,6 +1621,12 @@ public final class PromisesTest {
     Check.dueDouble("47: by numbers", x.likely(0),
         69.0 * (33.0 / 100.0) + 40.0 * (7.0 / 30.0) + 13.0 * (33.0 / 100.0));
     due("47: the other origin", x.likely(1), 0);
+    QuotaLicences y = Check.of(S);
+    y.apply(0, 0, 9);
+    Check.dueDouble("47: the first licence", y.likely(0), 9.0);
+    y.apply(0, 0, 5);
+    y.giveBack(1);
+    due("47: rate 0", y.likely(0), 0);
   }
 
   private static void root() {
@@ -1517,6 +1664,9 @@ public final class PromisesTest {
     QuotaLicences z = Check.of("scheme 1 1 1 1 1 1;origin 1;importer;importer;importer"
         + ";past 0 0 9 0 0;past 1 0 3 1 1;past 2 0 7 0 0");
     due("49: 5 7 9", z.median(0), 7);
+    QuotaLicences w = Check.of("scheme 1 1 1 1 1 1;origin 1;importer;importer;importer"
+        + ";past 0 0 5 0 0;past 1 0 3 1 4;past 2 0 2 0 0");
+    due("49: the first is the middle one", w.median(0), 5);
   }
 
   private static void rush() {
@@ -1554,6 +1704,7 @@ public final class PromisesTest {
     due("51: day 1", x.stood(0, 1), 100);
     due("51: day 2", x.stood(0, 2), 120);
     due("51: day 2 of the other", x.stood(1, 2), 7);
+    due("51: day 0", x.stood(0, 0), 100);
     x.giveBack(1);
     x.use(0, 30);
     pass(x, 1);
@@ -1592,6 +1743,17 @@ public final class PromisesTest {
     due("52: surety 0", x.owing(1), 0);
     x.set(3, 1);
     due("52: used enough", x.owing(1), 0);
+    x.set(1, 400);
+    x.set(3, 50);
+    x.apply(2, 0, 300);
+    x.use(3, 149);
+    due("52: one of 300", x.owing(2), 1);
+    x.use(3, 1);
+    due("52: none of 300", x.owing(2), 0);
+    x.set(3, 1);
+    x.apply(3, 0, 1);
+    due("52: a hundredth of 1", x.owing(3), 1);
+    due("41: a hundredth of 1", x.risk(0), 4);
   }
 
   private static void holds() {
