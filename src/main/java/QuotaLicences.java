@@ -63,6 +63,7 @@ public final class QuotaLicences {
   private static final long NO_NOTE = -9000000000L;
   private static final long NO_NUMBER = 9221120237041090560L;
 
+  private static final long SIGN_BIT = -9223372036854775808L;
   private static final long FRACTION_MASK = 4503599627370495L;
   private static final long EXPONENT_MASK = 9218868437227405312L;
 
@@ -253,10 +254,12 @@ public final class QuotaLicences {
     if (shelf < 0 || shelf >= SHELVES) {
       return NONE;
     }
-    if (shelves[shelf] == null) {
-      shelves[shelf] = new State();
+    State kept = shelves[shelf];
+    if (kept == null) {
+      kept = new State();
+      shelves[shelf] = kept;
     }
-    shelves[shelf].copyFrom(now);
+    kept.copyFrom(now);
     return now.scheme.origins;
   }
 
@@ -765,7 +768,7 @@ public final class QuotaLicences {
       exponent--;
     }
     long fraction = (long) ((rest - 1.0) * 4503599627370496.0);
-    return (d < 0.0 ? Long.MIN_VALUE : 0L) | exponent << 52 | fraction;
+    return (d < 0.0 ? SIGN_BIT : 0L) | exponent << 52 | fraction;
   }
 
   /** Of a float that is 0 or a positive one of ordinary size, as all here are. */
@@ -1669,10 +1672,12 @@ public final class QuotaLicences {
     int many;
 
     void remember(State state) {
-      if (states[top] == null) {
-        states[top] = new State();
+      State before = states[top];
+      if (before == null) {
+        before = new State();
+        states[top] = before;
       }
-      states[top].copyFrom(state);
+      before.copyFrom(state);
       top = (top + 1) % MOST_UNDONE;
       many = Math.min(many + 1, MOST_UNDONE);
     }
