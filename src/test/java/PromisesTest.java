@@ -149,7 +149,27 @@ public final class PromisesTest {
     x.feed(0x72696769, 0x6e203700, 0, 0, 0);
     x.end(27);
     due("2: the highest byte comes first", x.tell(), 1);
+    cutTape();
     Check.dueText("2: letters", Check.letters(x), "scheme 1 2 3 4 5 1;origin 7");
+  }
+
+  /** What end() cut off stays unread, whatever it would go on with. */
+  private static void cutTape() {
+    QuotaLicences x = new QuotaLicences();
+    x.feed(0x73636865, 0x6d652031, 0x20322033, 0x20342035, 0x20313b6f);
+    x.feed(0x72696769, 0x6e203737, 0x3b696d70, 0x6f727465, 0x72727272);
+    x.end(27);
+    due("3: a number is cut", x.tell(), 1);
+    due("3: a number is cut", x.origin(0, 0), 7);
+    x.feed(0x73636865, 0x6d652031, 0x20322033, 0x20342035, 0x20313b6f);
+    x.feed(0x72696769, 0x6e203737, 0x3b696d70, 0x6f727465, 0x72727272);
+    x.end(37);
+    due("3: a word is cut", x.tell(), 1);
+    due("3: a word is cut", x.count(1), 1);
+    x.feed(0x73636865, 0x6d652031, 0x20322033, 0x20342035, 0x20313b6f);
+    x.feed(0x72696769, 0x6e203720, 0x20202020, 0x20202020, 0x20202020);
+    x.end(19);
+    due("3: the piece is cut", x.tell(), -2 - 8 * 19 - 1);
   }
 
   private static void end() {
@@ -798,6 +818,7 @@ public final class PromisesTest {
     due("17: back(1)", x.back(1), 2);
     due("17: importers", x.count(1), 4);
     backWhole();
+    backToNothing();
   }
 
   /** Each part of what is kept is changed before it is brought back. */
@@ -844,6 +865,20 @@ public final class PromisesTest {
     x.undo();
     pass(x, 1);
     due("17: ended on day 5", x.stood(1, 5), 0);
+  }
+
+  private static void backToNothing() {
+    QuotaLicences x = Check.of(S);
+    x.keep(0);
+    x.apply(0, 0, 20);
+    pass(x, 2);
+    x.use(0, 20);
+    x.back(0);
+    x.apply(0, 0, 30);
+    due("17: a new licence is open", x.licence(0, 5), 0);
+    due("17: nothing of it is used", x.licence(0, 4), 0);
+    x.use(0, 1);
+    due("17: its days are its own", x.speed(0), 0);
   }
 
   // ---- 18 to 28 ----
@@ -1667,6 +1702,9 @@ public final class PromisesTest {
     QuotaLicences w = Check.of("scheme 1 1 1 1 1 1;origin 1;importer;importer;importer"
         + ";past 0 0 5 0 0;past 1 0 3 1 4;past 2 0 2 0 0");
     due("49: the first is the middle one", w.median(0), 5);
+    QuotaLicences v = Check.of("scheme 1 1 1 1 1 1;origin 1;importer;importer;importer"
+        + ";past 0 0 3 0 0;past 1 0 3 1 1;past 2 0 9 0 0");
+    due("49: 3 5 9", v.median(0), 5);
   }
 
   private static void rush() {
