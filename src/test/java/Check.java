@@ -32,6 +32,12 @@ final class Check {
 
   /** Feeds the text and tells it: what tell() answers. */
   static int tell(QuotaLicences x, String text) {
+    feed(x, text);
+    return x.tell();
+  }
+
+  /** The tape has the bytes of this text alone then. */
+  static void feed(QuotaLicences x, String text) {
     byte[] bytes = new byte[(text.length() + 19) / 20 * 20];
     for (int i = 0; i < text.length(); i++) {
       bytes[i] = (byte) text.charAt(i);
@@ -41,7 +47,6 @@ final class Check {
       x.feed(four(bytes, i), four(bytes, i + 4), four(bytes, i + 8), four(bytes, i + 12), four(bytes, i + 16));
     }
     x.end(text.length());
-    return x.tell();
   }
 
   private static int four(byte[] bytes, int at) {

@@ -34,6 +34,10 @@ public final class RandomRunsTest {
     Check.due(name + ", day " + x.count(4) + ": " + call, got, want);
   }
 
+  private void dueLook(String call, String want) {
+    Check.dueText(name + ", day " + x.count(4) + ": " + call, Look.ofState(x), want);
+  }
+
   private int below(int n) {
     return random.nextInt(n);
   }
@@ -62,12 +66,12 @@ public final class RandomRunsTest {
 
   private void run() {
     for (int i = 0; i < ACTS; i++) {
-      long before = print();
+      String before = Look.ofState(x);
       int acts = x.count(5);
       boolean done = act();
       due("acts that can be undone", x.count(5), done ? Math.min(acts + 1, 10) : acts);
       if (!done) {
-        due("a refused act changes nothing", print(), before);
+        dueLook("a refused act changes nothing", before);
       } else if (below(4) == 0) {
         checkUndo(before);
       }
@@ -134,13 +138,13 @@ public final class RandomRunsTest {
     return true;
   }
 
-  private void checkUndo(long before) {
+  private void checkUndo(String before) {
     int open = x.keep(0);
-    long after = print();
+    String after = Look.ofState(x);
     x.undo();
-    due("undone", print(), before);
+    dueLook("undone", before);
     due("back", x.back(0), open);
-    due("as it was kept", print(), after);
+    dueLook("as it was kept", after);
   }
 
   private void watchEnds() {
@@ -360,72 +364,6 @@ public final class RandomRunsTest {
     }
     due("shareAt() of part", x.shareAt(importer, origin, x.told(0)), future);
     x.back(1);
-  }
-
-  // ---- all that can be asked, in one number ----
-
-  private long sum;
-
-  private void add(long answer) {
-    sum = sum * 1000003 + answer;
-  }
-
-  private long print() {
-    sum = 17;
-    for (int what = 0; what < 5; what++) {
-      add(x.count(what));
-      add(x.total(what));
-      add(x.told(what));
-    }
-    add(x.told(5));
-    for (int origin = 0; origin < x.count(0); origin++) {
-      printOrigin(origin);
-    }
-    for (int i = 0; i < x.count(1); i++) {
-      add(x.rate(i));
-      add(x.owed(i));
-      for (int month = 0; month < 12; month++) {
-        add(x.month(i, month));
-      }
-    }
-    for (int i = 0; i < x.count(2); i++) {
-      add(x.speed(i));
-      add(x.root(i, 0));
-      add(x.root(i, 1));
-      for (int what = 0; what < 8; what++) {
-        add(x.licence(i, what));
-      }
-    }
-    return sum;
-  }
-
-  private void printOrigin(int origin) {
-    for (int what = 0; what < 8; what++) {
-      add(x.origin(origin, what));
-    }
-    add(x.focus(origin));
-    add(x.likely(origin));
-    add(x.median(origin));
-    add(x.fastest(origin));
-    for (int n = 1; n <= 12; n++) {
-      add(x.peak(origin, n, 1));
-    }
-    for (int i = 0; i < 8; i++) {
-      for (int what = 0; what < 5; what++) {
-        add(x.log(i, origin, what));
-      }
-    }
-    for (int i = 0; i < x.count(1); i++) {
-      add(x.idle(i, origin));
-      add(x.sort(i, origin));
-      add(x.even(i, origin));
-      add(x.share(i, origin, 0));
-      add(x.share(i, origin, 1));
-      add(x.would(i, origin, 1));
-      for (int year = 0; year < 4; year++) {
-        add(x.past(i, origin, year));
-      }
-    }
   }
 
   // ---- any arguments in any state: nothing is thrown ----
