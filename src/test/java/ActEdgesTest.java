@@ -84,6 +84,7 @@ public final class ActEdgesTest {
     shelfEdges();
     shelvesAside();
     backLeavesNothing();
+    backToOtherLicences();
   }
 
   private static void due(String call, long got, long want) {
@@ -1120,9 +1121,10 @@ public final class ActEdgesTest {
     x.hand(1, 2, 20);
     x.use(1, 5);
     pass(x, 3);
+    x.use(1, 5);
     x.use(2, 4);
     x.giveBack(1);
-    for (int i = 0; i < 6; i++) {
+    for (int i = 0; i < 7; i++) {
       x.undo();
     }
     Check.dueText("15: as it was", Look.ofState(x), Look.ofState(fresh));
@@ -1238,5 +1240,37 @@ public final class ActEdgesTest {
     x.apply(1, 0, 5);
     fresh.apply(1, 0, 5);
     Check.dueText("17: nothing of it is left", Look.ofState(x), Look.ofState(fresh));
+  }
+
+  /** Other licences of another scheme stood where those that are brought back stand. */
+  private static void backToOtherLicences() {
+    QuotaLicences x = Check.of(S);
+    x.apply(2, 1, 50);
+    pass(x, 3);
+    x.apply(1, 0, 60);
+    x.use(1, 20);
+    x.hand(1, 3, 15);
+    pass(x, 2);
+    x.use(2, 5);
+    x.giveBack(0);
+    pass(x, 1);
+    String look = Look.ofState(x);
+    x.keep(0);
+    Check.tell(x, "scheme 10 99999 90 0 0 3;origin 9000;origin 8000;importer;importer;importer;importer;importer");
+    pass(x, 7);
+    for (int i = 0; i < 3; i++) {
+      x.apply(4, i % 2, 100 + i);
+      x.apply(i, 0, 200 + i);
+    }
+    x.excess(2, 0, 5, 5);
+    due("17: back(0)", x.back(0), 2);
+    Check.dueText("17: as it was kept", Look.ofState(x), look);
+    for (int day = 0; day < 6; day++) {
+      due("51: day " + day, x.stood(1, day), day < 5 ? 50 : 0);
+      due("51: day " + day, x.stood(0, day), day < 3 ? 0 : 60);
+    }
+    due("48: by one hand", x.root(2, 1), 1);
+    due("12: days(26)", x.days(26), 0);
+    due("12: they lapse on their day", x.days(1), 35);
   }
 }

@@ -45,8 +45,10 @@ public final class AskEdgesTest {
   private static void using() {
     speedEdges();
     fastestEdges();
+    fastestMerged();
     fastestExactly();
     logEdges();
+    logPlaces();
     riskEdges();
     lacksEdges();
     paceEdges();
@@ -135,6 +137,12 @@ public final class AskEdgesTest {
     Check.dueDouble("22: two thirds", x.mean(1, 0), 2.0 / 3.0);
     Check.dueDouble("22: the most", x.mean(2, 0), 99999.0);
     Check.dueDouble("22: a third less", x.mean(3, 0), 299996.0 / 3.0);
+    for (int n = 1; n <= 65536; n = 2 * n) {
+      String text = "scheme 0 1 1 0 0 1;origin 1;importer;past 0 0 " + n + " " + n + " " + n;
+      Check.dueDouble("22: a power of two", Check.of(text).mean(0, 0), (double) n);
+      text = text.substring(0, text.length() - ("" + n).length()) + (n - 1);
+      Check.dueDouble("22: less than that", Check.of(text).mean(0, 0), (3.0 * n - 1.0) / 3.0);
+    }
     x.excess(4, 0, 2, 1);
     due("22: this year aside", x.mean(4, 0), 0);
     pass(x, 359);
@@ -353,6 +361,8 @@ public final class AskEdgesTest {
 
   private static void bestEdges() {
     QuotaLicences x = Check.of("scheme 0 100 90 0 100 1;origin 50;origin 60;origin 60;origin 10;importer");
+    due("32: for 1", x.best(0, 1, 0), 0);
+    due("32: for 1", x.best(0, 1, 1), 1);
     due("32: alike in all: the least", x.best(0, 10, 0), 0);
     due("32: alike in all", x.best(0, 10, 1), 10);
     due("32: alike in three", x.best(0, 50, 0), 0);
@@ -370,6 +380,9 @@ public final class AskEdgesTest {
     x.apply(0, 3, 1);
     due("32: in none", x.best(0, 1, 0), -2);
     due("32: in none", x.best(0, 1, 1), -2);
+    QuotaLicences one = Check.of("scheme 0 100 90 0 100 1;origin 0;origin 1;origin 0;importer");
+    due("32: 1 alone", one.best(0, 100, 0), 1);
+    due("32: 1 alone", one.best(0, 100, 1), 1);
     due("32: NONE ahead of none", x.best(0, 1, 2), -1);
     due("32: NONE ahead of none", x.best(0, 0, 0), -1);
   }
@@ -576,7 +589,26 @@ public final class AskEdgesTest {
     due("39: undone", x.fastest(3), 7);
   }
 
-  /** Means that lie so near that floats would not part them: 40 of 99999 days against 39 of 99998, and the like. */
+  /** What was used of two that are merged is told once, as it was used. */
+  private static void fastestMerged() {
+    for (int merged = 0; merged < 2; merged++) {
+      QuotaLicences x = Check.of(S);
+      for (int importer = 0; importer < 2; importer++) {
+        x.apply(importer, 0, 50);
+        x.apply(importer, 0, 50);
+      }
+      pass(x, 1);
+      for (int licence = 0; licence < 4; licence++) {
+        x.use(licence, 5 + licence % 2);
+      }
+      x.merge(2 * merged, 2 * merged + 1);
+      due("39: alike, merged " + merged, x.fastest(0), 0);
+      x.use(2 * merged, 1);
+      due("39: alike, merged " + merged, x.fastest(0), 0);
+    }
+  }
+
+  /** Means that lie so near that floats would not part them: by one of 50000, by one of 49999. */
   private static void fastestExactly() {
     String many = "scheme 0 99999 90 0 100 1;origin 99999;importer;importer";
     QuotaLicences x = Check.of(many);
@@ -636,6 +668,30 @@ public final class AskEdgesTest {
     due("40: carried into the first", y.log(0, 0, 1), 0);
     pass(y, 90);
     due("40: carried into the second", y.log(0, 0, 1), 9000);
+  }
+
+  /** Each figure of each origin goes back place by place. */
+  private static void logPlaces() {
+    QuotaLicences x = Check.of(FULL.replace("100 1;", "100 3;"));
+    for (int period = 0; period < 10; period++) {
+      for (int origin = 0; origin < 4; origin++) {
+        x.widen(origin, 1000 * origin + 900 + period);
+        x.apply(7, origin, 20 + 4 * period + origin);
+        x.use(x.count(2) - 1, 10 + period + origin);
+        x.excess(0, origin, 1000 * origin + period + 1, 1);
+      }
+      pass(x, 90);
+    }
+    for (int i = 0; i < 8; i++) {
+      int period = 9 - i;
+      for (int origin = 0; origin < 4; origin++) {
+        due("40: quota, " + i + ", " + origin, x.log(i, origin, 0), 1000 * origin + 900 + period - 1);
+        due("40: granted, " + i + ", " + origin, x.log(i, origin, 2), 20 + 4 * period + origin);
+        due("40: imported, " + i + ", " + origin, x.log(i, origin, 3), 10 + period + origin);
+        due("40: without, " + i + ", " + origin, x.log(i, origin, 4), 1000 * origin + period + 1);
+      }
+    }
+    due("40: no more than eight", x.log(8, 0, 0), -1);
   }
 
   private static void riskEdges() {
@@ -798,6 +854,7 @@ public final class AskEdgesTest {
     for (int i = 0; i < 8; i++) {
       due("45: 15 for eight", full.even(i, 3), i < 7 ? 2 : 1);
     }
+    due("45: one newcomer alone", Check.of("scheme 50 9 1 0 0 1;origin 8;importer;importer;past 0 0 1 1 1").even(1, 0), 4);
     QuotaLicences none = Check.of("scheme 0 1 1 0 0 1;origin 9;importer;past 0 0 1 1 1");
     due("45: no newcomers", none.even(0, 0), -1);
   }
@@ -828,11 +885,26 @@ public final class AskEdgesTest {
       due("46: so it is, " + i, x.share(i, 0, 0), told[i]);
     }
     due("46: so it is", x.share(1, 1, 0), told[4]);
+    futureNeed();
     QuotaLicences none = Check.of("scheme 100 1 1 0 0 1;origin 9;importer;past 0 0 9 0 0");
     due("46: what is year 2 will be gone", none.future(0, 0), 0);
     due("23: now it is not", none.share(0, 0, 0), 9);
     none.excess(0, 0, 1, 1);
     due("46: one is enough", none.future(0, 0), 9);
+  }
+
+  /** One piece a year is some: years 1 and 0 and this one count, each once. */
+  private static void futureNeed() {
+    String[] years = {"9 0 0", "9 1 0", "9 0 1", "9 1 1"};
+    int[] many = {0, 1, 1, 2};
+    for (int i = 0; i < 4; i++) {
+      for (int need = 1; need <= 3; need++) {
+        QuotaLicences x = Check.of("scheme 100 1 1 0 0 " + need + ";origin 10;importer;past 0 0 " + years[i]);
+        due("46: " + years[i] + ", NEED " + need, x.future(0, 0), many[i] >= need ? 10 : 0);
+        x.excess(0, 0, 1, 1);
+        due("46: " + years[i] + " and 1, NEED " + need, x.future(0, 0), many[i] + 1 >= need ? 10 : 0);
+      }
+    }
   }
 
   private static void likelyEdges() {
@@ -908,6 +980,12 @@ public final class AskEdgesTest {
     for (int i = 0; i < 8; i++) {
       text = text + (i == 7 ? ";past 7 0 100 100 100" : ";past " + i + " 0 0 1 " + (sums[i] - 1));
       due("49: of " + (i + 1), Check.of(text).median(0), want[i]);
+    }
+    String three = "scheme 50 1 1 0 0 1;origin 9;importer;importer;importer";
+    int[][] orders = {{1, 2, 3}, {1, 3, 2}, {2, 1, 3}, {2, 3, 1}, {3, 1, 2}, {3, 2, 1}};
+    for (int[] one : orders) {
+      String told = three + ";past 0 0 0 0 " + one[0] + ";past 1 0 0 " + one[1] + " 0;past 2 0 " + one[2] + " 0 0";
+      due("49: of three, in any order", Check.of(told).median(0), 2);
     }
     QuotaLicences x = Check.of(S);
     due("49: of two the lesser", x.median(0), 200);

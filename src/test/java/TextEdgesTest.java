@@ -223,7 +223,8 @@ public final class TextEdgesTest {
 
   /** Bytes that can stand nowhere, those beside blanks, digits, ; and small letters among them. */
   private static void wrongBytes() {
-    int[] none = {0, 9, 10, 13, 31, 33, 45, 46, 47, 58, 60, 64, 65, 79, 83, 90, 91, 95, 96, 123, 127, 128, 160, 176, 251, 255};
+    int[] none = {0, 9, 10, 13, 31, 33, 45, 46, 47, 58, 60, 64, 65, 79, 83, 90, 91, 95, 96, 123, 127, 128, 160, 176,
+      251, 255};
     for (int at = 0; at < T.length(); at++) {
       for (int wrong : none) {
         fault(T.substring(0, at) + (char) wrong + T.substring(at + 1), placeOf(at), MISPLACED);
@@ -250,11 +251,13 @@ public final class TextEdgesTest {
   }
 
   private static void words() {
-    String[] first = {"schem", "schemes", "schemee", "sscheme", "Scheme", "scheMe", "origin", "importer", "past", "a", "z"};
+    String[] first = {"schem", "schemes", "schemee", "sscheme", "xcheme", "schemf", "tcheme", "Scheme",
+      "scheMe", "origin", "importer", "past", "a", "z"};
     for (String word : first) {
       fault(word + T.substring(6), 0, MISPLACED);
     }
-    String[] piece = {"origi", "origins", "oorigin", "originz", "origina", "import", "importe", "importers", "pas",
+    String[] piece = {"origi", "origins", "oorigin", "originz", "origina", "xrigin", "origim",
+      "xmporter", "importes", "xast", "pasu", "import", "importe", "importers", "pas",
       "pasts", "scheme", "a", "z", "orzgin"};
     for (String word : piece) {
       fault(B + ';' + word + " 1", 21, MISPLACED);
@@ -551,8 +554,9 @@ public final class TextEdgesTest {
 
   /** What was there in a greater scheme is not to be seen in a smaller one that grows again. */
   private static void tellForgets() {
-    String great = B + ";origin 900".repeat(4) + ";importer".repeat(8) + ";past 7 3 5 6 7;past 0 3 1 1 1;past 7 0 9 9 9";
-    String plain = B + ";origin 900".repeat(4) + ";importer".repeat(8);
+    String duty = "scheme 60 5 90 0 100 1";
+    String great = duty + ";origin 900".repeat(4) + ";importer".repeat(8) + ";past 7 3 5 6 7;past 0 3 1 1 1;past 7 0 9 9 9";
+    String plain = duty + ";origin 900".repeat(4) + ";importer".repeat(8);
     QuotaLicences x = Check.of(great);
     for (int i = 0; i < 8; i++) {
       x.apply(i, 3, 5);
@@ -674,7 +678,8 @@ public final class TextEdgesTest {
   }
 
   private static void letterTellsTheSame() {
-    QuotaLicences x = Check.of("  scheme 07 8 9 10 11 2 ;importer; origin 3;past 0 0 4 5 6;origin 12;importer;past 1 1 0 0 1 ");
+    QuotaLicences x = Check.of("  scheme 07 8 9 10 11 2 ;importer; origin 3;past 0 0 4 5 6;origin 12;importer"
+        + ";past 1 1 0 0 1 ");
     String text = Check.letters(x);
     QuotaLicences y = fits(text, 2);
     Check.dueText("58: its text tells the same", Look.ofState(y), Look.ofState(x));
