@@ -85,6 +85,7 @@ public final class ActEdgesTest {
     shelvesAside();
     backLeavesNothing();
     backToOtherLicences();
+    backAheadOfLicences();
   }
 
   private static void due(String call, long got, long want) {
@@ -1272,5 +1273,26 @@ public final class ActEdgesTest {
     due("48: by one hand", x.root(2, 1), 1);
     due("12: days(26)", x.days(26), 0);
     due("12: they lapse on their day", x.days(1), 35);
+  }
+
+  /** What was brought back ahead of a licence knows nothing of it, nor does the next one in its place. */
+  private static void backAheadOfLicences() {
+    QuotaLicences x = Check.of(S);
+    QuotaLicences fresh = Check.of(S);
+    x.keep(1);
+    x.apply(0, 0, 20);
+    x.hand(0, 3, 10);
+    pass(x, 2);
+    x.use(0, 5);
+    x.use(1, 10);
+    due("17: back(1)", x.back(1), 2);
+    Check.dueText("17: as it was", Look.ofState(x), Look.ofState(fresh));
+    for (QuotaLicences one : new QuotaLicences[] {x, fresh}) {
+      due("5: apply(1, 1, 9)", one.apply(1, 1, 9), 0);
+      due("6: use(0, 2)", one.use(0, 2), 7);
+      due("8: hand(0, 2, 3)", one.hand(0, 2, 3), 1);
+      due("6: use(1, 1)", one.use(1, 1), 2);
+    }
+    Check.dueText("17: in their places", Look.ofState(x), Look.ofState(fresh));
   }
 }

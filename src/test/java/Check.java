@@ -22,8 +22,20 @@ final class Check {
     asked++;
     if (!got.equals(want)) {
       wrong++;
-      System.out.println(call + " answered '" + got + "', due is '" + want + "'");
+      System.out.println(call + " answered " + unlikeLine(got, want) + ", due is " + unlikeLine(want, got));
     }
+  }
+
+  /** The first line that the other text has not, so that a long one stays readable. */
+  private static String unlikeLine(String text, String other) {
+    String[] lines = text.split("\n", -1);
+    String[] others = other.split("\n", -1);
+    for (int i = 0; i < lines.length; i++) {
+      if (i >= others.length || !lines[i].equals(others[i])) {
+        return "'" + lines[i] + "'";
+      }
+    }
+    return "no more lines";
   }
 
   static void isTrue(String what, boolean so) {

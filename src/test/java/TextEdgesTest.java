@@ -562,12 +562,21 @@ public final class TextEdgesTest {
       x.apply(i, 3, 5);
       x.excess(i, 3, 5, 5);
     }
-    x.use(7, 2);
-    x.days(90);
+    x.days(30);
+    for (int i = 0; i < 8; i++) {
+      x.use(i, 2);
+    }
+    x.days(60);
     x.apply(7, 3, 2);
     due("4: a smaller one", Check.tell(x, B + ";origin 1"), 1);
     due("4: and a greater one", Check.tell(x, plain), 4);
     Check.dueText("4: as a new object has it", Look.ofState(x), Look.ofState(Check.of(plain)));
+    QuotaLicences fresh = Check.of(plain);
+    for (QuotaLicences one : new QuotaLicences[] {x, fresh}) {
+      due("5: a new licence in an old place", one.apply(0, 0, 5), 0);
+      due("6: use(0, 1)", one.use(0, 1), 4);
+    }
+    Check.dueText("4: as a new object has it", Look.ofState(x), Look.ofState(fresh));
     QuotaLicences y = Check.of(great);
     y.days(90);
     y.days(90);
