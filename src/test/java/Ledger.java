@@ -161,7 +161,7 @@ final class Ledger {
         own[i] = traditional(p, i, o) ? together(p, i, o) : 0;
         all = all.add(BigInteger.valueOf(own[i]));
       }
-      BigInteger whole = BigInteger.valueOf(part).multiply(BigInteger.valueOf(quota(p, o))).divide(BigInteger.valueOf(100));
+      BigInteger whole = BigInteger.valueOf((long) part * quota(p, o) / 100);
       int[] shares = new int[importers];
       for (int i = 0; i < importers; i++) {
         shares[i] = own[i] == 0 ? 0 : whole.multiply(BigInteger.valueOf(own[i])).divide(all).intValueExact();

@@ -16,7 +16,7 @@ public final class SecondReadingTest {
   /** Promise, call, then what its numbers are: see numberFor(). */
   private static final String[] ACTS = {
     "5 apply i o n", "5 apply i o n", "5 apply i o n", "5 apply i o n", "6 use l u", "6 use l u", "6 use l u",
-    "7 giveBack l", "8 hand l i u", "8 hand l i u", "9 merge l m", "10 lend i i o n", "11 excess i o n v",
+    "7 giveBack l", "8 hand l i u", "8 hand l i u", "9 merge a m", "10 lend i i o n", "11 excess i o n v",
     "12 days d", "12 days d", "12 days d", "13 widen o q", "14 set w5 t", "15 undo", "16 keep w1", "17 back w1",
     "55 row w3 z", "56 note j w3 x", "56 note j s x", "2 feed x x x x x", "3 end x", "4 tell"};
   /** And back() of a shelf that there is not: it changes nothing, and may come often. */
@@ -24,9 +24,11 @@ public final class SecondReadingTest {
     "18 told w5", "19 origin o w7", "19 origin o w7", "20 past i o w3", "21 sort i o", "22 mean i o", "23 share i o w1",
     "24 licence l w7", "24 licence l w7", "25 month i w11", "26 rate i", "27 idle i o", "28 owed i", "29 would i o n",
     "30 lapses d", "31 next k", "32 best i n w1", "33 order i", "34 focus o", "35 carry o", "36 window",
-    "37 shareAt i o p", "38 speed l", "39 fastest o", "40 log w8 o w4", "41 risk k", "42 lacks i o n", "43 pace i",
+    "37 shareAt i o p", "38 speed l", "39 fastest o", "39 fastest o",
+    "39 fastest o", "40 log w7 o w4", "40 log w7 o w4", "41 risk k", "42 lacks i o n", "43 pace i",
     "44 peak o c w1", "45 even i o", "46 future i o", "47 likely o", "48 root l w1", "49 median o", "50 rush i o n",
-    "51 stood o y", "52 owing i", "53 holds i w3", "54 total w4", "57 noted j", "58 letter K", "59 count w8", "17 back f"};
+    "51 stood o y", "52 owing i", "53 holds i w3", "54 total w4", "57 noted j", "58 letter K", "59 count w8",
+    "17 back f"};
   /** The refusals that runs must have met; 0 stands for an answer that is none. */
   private static final String[] DUE = {
     "feed 0 -1", "end 0 -1", "tell 0", "apply 0 -1 -2 -3 -4 -5 -6", "use 0 -1 -2 -3", "giveBack 0 -1 -2",
@@ -43,22 +45,34 @@ public final class SecondReadingTest {
   private static final Map<String, Method> SECOND = new HashMap<>();
   private static final Map<String, Set<Long>> MET = new HashMap<>();
 
+  /** Which acts come most, and one in how many steps tells another scheme. */
+  private enum Style {
+    HURRIED("days", 5000), CROWDED("apply hand merge", 900), SHELVED("apply keep back undo days hand", 40),
+    HANDING("apply use hand merge days", 900), ANY("", 300);
+
+    final Set<String> wanted;
+    final int tells;
+
+    Style(String wanted, int tells) {
+      this.wanted = Set.of(wanted.split(" "));
+      this.tells = tells;
+    }
+  }
+
   private final QuotaLicences x = new QuotaLicences();
   private final Ledger ledger = new Ledger();
   private final StringBuilder told = new StringBuilder();
   private final Random random;
   private final String name;
-  /** Runs of one in eight hurry on to the last day, of another one have many licences. */
-  private final boolean hurried;
-  private final boolean crowded;
+  private final Style style;
   private int calls;
   private boolean alike = true;
 
   private SecondReadingTest(int seed) {
     random = new Random(seed);
     name = "run " + seed;
-    hurried = seed % 8 == 0;
-    crowded = seed % 8 == 1;
+    Style[] styles = Style.values();
+    style = styles[Math.min(seed % 8, styles.length - 1)];
   }
 
   public static void main(String[] args) throws Exception {
@@ -98,13 +112,16 @@ public final class SecondReadingTest {
     for (int i = 0; i < weights.length; i++) {
       weights[i] = weightOf(ACTS[i].split(" ")[1]);
     }
-    int acts = hurried || crowded ? 4 : 1 + below(4);
+    int acts = style == Style.HURRIED || style == Style.CROWDED ? 4 : 1 + below(4);
     if (below(10) > 0) {
-      tell(randomScheme(), "");
+      tell(randomScheme());
     }
     while (calls < CALLS && alike) {
-      if (!hurried && below(crowded ? 900 : 300) == 0) {
-        tell(randomScheme(), below(3) == 0 ? "spoilt" : "");
+      if (below(style.tells) == 0) {
+        tell(below(3) == 0 ? spoil(randomScheme()) : randomScheme());
+      } else if (ledger.count(2) > 51 && ledger.count(2) < 60 && below(3) == 0) {
+        // near the sixtieth licence it matters who of all gets one
+        call("50 rush i o n");
       } else if (below(5) < acts) {
         call(anAct(weights));
       } else {
@@ -115,11 +132,10 @@ public final class SecondReadingTest {
 
   private int weightOf(String act) {
     boolean again = act.equals("back") || act.equals("tell");
-    if (hurried || crowded) {
-      String wanted = hurried ? "days" : "apply hand merge";
-      return wanted.contains(act) ? 4 : again || act.equals("undo") ? 0 : below(2);
+    if (style == Style.ANY) {
+      return again ? below(40) == 0 ? 1 : 0 : below(5);
     }
-    return again ? below(40) == 0 ? 1 : 0 : below(5);
+    return style.wanted.contains(act) ? 4 : again || act.equals("undo") ? 0 : below(2);
   }
 
   private String anAct(int[] weights) {
@@ -133,12 +149,25 @@ public final class SecondReadingTest {
   }
 
   private void runTexts() throws Exception {
+    if (below(4) == 0) {
+      fillTape();
+    }
     while (calls < CALLS - 150 && alike) {
-      tell(randomScheme(), "spoilt");
+      tell(spoil(randomScheme()));
       call("59 count w8");
       call("58 letter K");
       call("4 tell");
     }
+  }
+
+  /** To where twenty bytes more are one too many, or not. */
+  private void fillTape() throws Exception {
+    for (int i = 0; i < 20; i++) {
+      call("2 feed x x x x x");
+    }
+    callBoth("3", "end", 379 + below(4));
+    call("2 feed x x x x x");
+    call("3 end x");
   }
 
   private void call(String line) throws Exception {
@@ -188,8 +217,8 @@ public final class SecondReadingTest {
   }
 
   private long wild() {
-    long[] some = {-2147483648, -3, -2, -1, 0, 1, 2, 3, 4, 5, 6, 7, 8, 9, 11, 12, 13, 39, 40, 41, 59, 60, 61, 89, 90, 91,
-        100, 101, 359, 360, 400, 2000, 2001, 3600, 9999, 10000, 99999, 100000, 2147483647};
+    long[] some = {-2147483648, -3, -2, -1, 0, 1, 2, 3, 4, 5, 6, 7, 8, 9, 11, 12, 13, 39, 40, 41, 59, 60, 61, 89, 90,
+        91, 100, 101, 359, 360, 400, 2000, 2001, 3600, 9999, 10000, 99999, 100000, 2147483647};
     return below(4) == 0 ? random.nextInt() : some[below(some.length)];
   }
 
@@ -203,15 +232,15 @@ public final class SecondReadingTest {
       return new int[] {bounds[0] - 1, bounds[0], bounds[1], bounds[1] + 1}[below(4)];
     }
     switch (what.charAt(0)) {
-      case 'i': return below(Math.max(1, ledger.count(1)));
+      case 'i': return below(Math.max(1, style == Style.HANDING ? Math.min(2, ledger.count(1)) : ledger.count(1)));
       case 'o': return below(Math.max(1, ledger.count(0)));
       case 'l': return aLicence();
       case 'n': return anAmount();
-      case 'u': return crowded ? 1 : below(4) == 0 ? leftOf(ledger, first) : below(8) == 0 ? leftOf(ledger, first) + 1
-          : 1 + below(leftOf(ledger, first));
-      case 'm': return aLike(first);
+      case 'u': return aPart(leftOf(ledger, first));
+      case 'a': return aTwin();
+      case 'm': return twinOf(first) < 0 || below(8) == 0 ? aLicence() : twinOf(first);
       case 'v': return 1 + below(9999);
-      case 'd': return hurried && below(4) > 0 ? 90 : below(4) == 0 ? 1 + below(90) : below(6) == 0 ? 90 - ledger.count(4) % 90 : 1 + below(9);
+      case 'd': return someDays();
       case 'q': return below(10) == 0 ? ledger.origin(0, 0) : below(3) == 0 ? below(100000) : below(800);
       case 't': return below(8) == 0 ? ledger.told(first) : first == 5 ? 1 + below(3) : 1 + below(100);
       case 'p': return below(101);
@@ -234,7 +263,7 @@ public final class SecondReadingTest {
     switch (what.charAt(0)) {
       case 'i': return new int[] {0, ledger.count(1) - 1};
       case 'o': return new int[] {0, ledger.count(0) - 1};
-      case 'l': case 'm': return new int[] {0, ledger.count(2) - 1};
+      case 'l': case 'a': case 'm': return new int[] {0, ledger.count(2) - 1};
       case 'n': case 'u': return new int[] {1, 99999};
       case 'v': return new int[] {1, 9999};
       case 'd': return new int[] {1, 90};
@@ -253,9 +282,24 @@ public final class SecondReadingTest {
     }
   }
 
+  /** Of what is left of a licence; now and then all, or one more. */
+  private int aPart(int left) {
+    if (style == Style.CROWDED || style == Style.HANDING && below(2) == 0) {
+      return 1 + below(Math.min(3, left));
+    }
+    return below(4) == 0 ? left : below(8) == 0 ? left + 1 : 1 + below(left);
+  }
+
+  private int someDays() {
+    if (style == Style.HURRIED && below(4) > 0) {
+      return 90;
+    }
+    return below(4) == 0 ? 1 + below(90) : below(6) == 0 ? 90 - ledger.count(4) % 90 : 1 + below(9);
+  }
+
   private int anAmount() {
     int lot = Math.max(1, ledger.told(1));
-    if (crowded) {
+    if (style == Style.CROWDED) {
       return 1 + below(3);
     }
     switch (below(8)) {
@@ -276,10 +320,10 @@ public final class SecondReadingTest {
     return licence;
   }
 
-  /** A licence that the first one could take in, if there is one. */
-  private int aLike(int first) {
-    for (int i = 0; i < ledger.count(2) && below(8) > 0; i++) {
-      boolean alike = i != first && ledger.licence(i, 5) == 0;
+  /** An open licence that the first one could take in, or -1. */
+  private int twinOf(int first) {
+    for (int i = 0; i < ledger.count(2); i++) {
+      boolean alike = i != first && ledger.licence(i, 5) == 0 && ledger.licence(first, 5) == 0;
       for (int what : new int[] {0, 1, 3, 6}) {
         alike = alike && ledger.licence(i, what) == ledger.licence(first, what);
       }
@@ -287,14 +331,21 @@ public final class SecondReadingTest {
         return i;
       }
     }
-    return aLicence();
+    return -1;
+  }
+
+  private int aTwin() {
+    int licence = aLicence();
+    for (int i = 0; i < 10 && twinOf(licence) < 0; i++) {
+      licence = aLicence();
+    }
+    return licence;
   }
 
   // ---- texts ----
 
-  private void tell(String text, String how) throws Exception {
-    String bytes = how.isEmpty() ? text : spoil(text);
-    bytes = bytes.length() > 400 ? bytes.substring(0, 400) : bytes;
+  private void tell(String text) throws Exception {
+    String bytes = text.length() > 400 ? text.substring(0, 400) : text;
     callBoth("3", "end", 0);
     for (int i = 0; i < bytes.length(); i += 20) {
       Object[] numbers = new Object[5];
@@ -355,8 +406,8 @@ public final class SecondReadingTest {
 
   private String spoil(String text) {
     StringBuilder bytes = new StringBuilder(text);
-    String[] pieces = {";origin 1", ";importer", ";past 0 0 1 1 1", ";past 7 0 1 1 1", ";past 0 3 1 1 1", ";scheme", ";",
-        " ", "100000", ";origin 100000", ";past 0 0 1 1 100000", ";;", "x", "\u00ff", "\u0000", "0", "origin", "-1"};
+    String[] pieces = {";origin 1", ";importer", ";past 0 0 1 1 1", ";past 7 0 1 1 1", ";past 0 3 1 1 1", ";scheme",
+        ";", " ", "100000", ";origin 100000", ";past 0 0 1 1 100000", ";;", "x", "\u00ff", "\u0000", "0", "origin", "-1"};
     for (int i = below(3); i >= 0; i--) {
       int at = below(bytes.length() + 1);
       switch (below(6)) {
