@@ -4,8 +4,8 @@ import java.util.Collections;
 import java.util.List;
 
 /**
- * The document, read a second time and without a look at the class: it keeps what happened as lists and works each
- * answer out from them anew. What is asked ahead (would(), rush(), lapses(), future(), carry()) is done on a copy.
+ * The document, read a second time and done in another way than in the class: it keeps what happened as lists and works
+ * each answer out from them anew. What is asked ahead (would(), rush(), lapses(), future(), carry()) is done on a copy.
  */
 final class Ledger {
   private static final int NONE = -1;
